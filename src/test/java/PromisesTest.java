@@ -161,6 +161,8 @@ public final class PromisesTest {
         taken("one back;deed 7 0 0 0;hours 8;", 3);
         taken("deed 0 3 3 5;one forth;one forth;one forth;one forth;", 5);
         taken("one forth;deed 0 0 0 0 0;", 2);
+        taken("one other;must 7;odds 7 1;deed 0 0 0 0;deed 0 0 0 0;deed 0 0 0 0;deed 0 0 0 0;deed 0 0 0 0;deed 0 0 0 0;"
+                + "deed 0 0 0 0;deed 0 0 0 0;", 11);
         EveningFirst x = told("hours 6;one other 5 0;one back;deed 3 1 0 4 2 1;must 0;odds 0 7;");
         due("rule(0)", x.rule(0), 6);
         due("one(0, 1)", x.one(0, 1), 33);
@@ -170,6 +172,7 @@ public final class PromisesTest {
         x.see(0, 0, 0, true);
         x.keep(0);
         x.sheet(0, 1, 3);
+        due("ways(0)", x.ways(0), 9);
         due("text()", tell(x, "one forth;deed 0 0 0 0;never 0;"), 3);
         due("rule(0) as at first", x.rule(0), 4);
         due("rule(1)", x.rule(1), 1);
@@ -208,6 +211,12 @@ public final class PromisesTest {
         faulty("hours 3;/", 1, 8);
         faulty("hour 3;", 2, 0);
         faulty("hourss 3;", 2, 0);
+        faulty("xours 3;", 2, 0);
+        faulty("hourx 3;", 2, 0);
+        faulty("hours 3;z", 2, 8);
+        faulty("hours 3;azaz", 2, 8);
+        faulty("one 123;", 1, 4);
+        faulty("one forth 123;", 1, 10);
         faulty("forth;", 2, 0);
         faulty("  ; ", 2, 2);
         faulty("12", 2, 0);
@@ -252,6 +261,10 @@ public final class PromisesTest {
         faulty("deed 0 0 0 0 0 1 0;", 4, 17);
         faulty("must 0;must 0?", 4, 12);
         faulty("must 0;never 0;", 4, 13);
+        faulty("must 0;must 1;must 0;", 4, 19);
+        faulty("odds 0 1;odds 1 1;odds 0 1;", 4, 23);
+        faulty("must 1;must 0;one forth;deed 0 0 0 0;", 6, 37);
+        faulty("odds 1 0;odds 0 0;one forth;deed 0 0 0 0;", 6, 41);
         faulty("never 0;must 00;", 4, 13);
         faulty("never 0;never 0;", 4, 14);
         faulty("odds 0 1;odds 0 11;", 4, 14);
@@ -293,7 +306,9 @@ public final class PromisesTest {
         due("one(0, 1)", x.one(0, 1), 1);
         due("one(1, 1)", x.one(1, 1), 0);
         due("one(2, 1)", x.one(2, 1), 10);
-        due("one(2, 15)", x.one(2, 15), -1);
+        for (int p = 0; p < 3; p++) {
+            due("one(" + p + ", 15)", x.one(p, 15), -1);
+        }
         due("one(2, 9)", x.one(2, 9), -1);
         due("one(2, 2)", x.one(2, 2), -1);
         due("one(2, -1)", x.one(2, -1), -1);
@@ -320,7 +335,8 @@ public final class PromisesTest {
         EveningFirst x = told("one forth 0;one back;");
         promise = 9;
         due("go(0, 2)", x.go(0, 2), 0);
-        due("go(0, 1)", x.go(0, 1), 2);
+        due("go(0, 0)", x.go(0, 0), 2);
+        due("go(0, 1)", x.go(0, 1), 0);
         due("go(0, 1)", x.go(0, 1), 1);
         due("go(0, 3)", x.go(0, 3), -1);
         due("go(0, -1)", x.go(0, -1), -1);
@@ -356,7 +372,9 @@ public final class PromisesTest {
         for (int what = 0; what < 7; what++) {
             due("deed(0, " + what + ")", x.deed(0, what), told[what]);
         }
-        for (int d = 2; d <= 8; d++) {
+        due("does", x.does(0, 0, 1, 0, 0), 2);
+        due("deed(1, 2)", x.deed(1, 2), 1);
+        for (int d = 3; d <= 8; d++) {
             due("does, of himself", x.does(0, 0, 0, 0, 0), d);
         }
         due("does, the 9th", x.does(0, 0, 0, 0, 0), -3);
@@ -413,12 +431,34 @@ public final class PromisesTest {
             }
         }
         due("has(2, 1, 8)", x.has(2, 1, 8), 4);
+        for (int hours = 2; hours <= 8; hours++) {
+            for (int way = 0; way < 3; way++) {
+                earlier(hours, way);
+            }
+        }
         due("has(3, 0, 0)", x.has(3, 0, 0), -1);
         due("has(-1, 0, 0)", x.has(-1, 0, 0), -1);
         due("has(0, 5, 0)", x.has(0, 5, 0), -1);
         due("has(0, -1, 0)", x.has(0, -1, 0), -1);
         due("has(0, 0, 16)", x.has(0, 0, 16), -1);
         due("has(0, 0, -1)", x.has(0, 0, -1), -1);
+    }
+
+    /** Each hour is held against each other one by their places in the row. */
+    private static void earlier(int hours, int way) {
+        String[] others = {"01", "021", "0231", "02431", "024531", "0246531", "02467531"};
+        String forth = "01234567".substring(0, hours);
+        String back = new StringBuilder(forth).reverse().toString();
+        String row = way == 0 ? forth : way == 1 ? back : others[hours - 2];
+        EveningFirst x = told("hours " + hours + ";one forth;deed 0 0 0 3;");
+        x.go(0, way);
+        for (int i = 0; i < hours; i++) {
+            x.shift(0, row.charAt(i) - '0');
+            for (int j = 0; j < hours; j++) {
+                due("has of " + hours + " hours by " + way + ", places " + i + ", " + j,
+                        x.has(0, row.charAt(j) - '0', 1), i < j ? 8 : 0);
+            }
+        }
     }
 
     private static void hangsLacks() {
@@ -448,6 +488,10 @@ public final class PromisesTest {
         due("lacks(0, -1)", x.lacks(0, -1), -1);
         EveningFirst y = told("one forth 2 0;deed 0 0 0 1 5 4 2 0;");
         due("lacks, the first of two", y.lacks(1, 1), 4);
+        EveningFirst z = told("one forth;deed 0 0 0 0;deed 1 0 0 0;deed 2 0 0 0;deed 3 0 0 1 0;");
+        for (int day = 0; day < 16; day++) {
+            due("hangs(" + day + "), one of three that give is enough", z.hangs(day), day == 8 ? 0 : 1);
+        }
         due("a gift is no help in its own hour", told("one forth;deed 0 0 0 1 1;").hangs(1), 0);
     }
 
@@ -473,6 +517,11 @@ public final class PromisesTest {
         for (int what = 1; what <= 4; what++) {
             due("days(" + what + "), none", x.days(what), -4);
         }
+        x.mark(3, 0);
+        x.mark(2, 0);
+        x.mark(0, 2);
+        due("days(4), the first of all", x.days(4), 3);
+        due("days(0), marks are taken away again", x.days(0), 3);
         due("days(5)", x.days(5), -1);
         due("days(-1)", x.days(-1), -1);
     }
@@ -527,6 +576,17 @@ public final class PromisesTest {
         due("made(1)", y.made(1), 31);
         due("stop(0)", y.stop(0), 2);
         due("stop(1)", y.stop(1), 2);
+        y.does(2, 0, 1, 5, 8);
+        due("made(1)", y.made(1), 63);
+        due("stop(0), of several the first", y.stop(0), 2);
+        due("stop(1)", y.stop(1), 2);
+        y.mark(2, 2);
+        y.mark(0, 0);
+        due("stop(0), the other round", y.stop(0), 0);
+        due("stop(1), the other round", y.stop(1), 0);
+        EveningFirst z = told("hours 3;one forth;one back;deed 0 0 0 5;deed 2 0 1 0 1;deed 0 1 0 1 0;");
+        due("stop(0)", z.stop(0), 1);
+        due("stop(1)", z.stop(1), 0);
     }
 
     private static void reach() {
@@ -553,6 +613,13 @@ public final class PromisesTest {
         due("reach, BAD hour", x.reach(0, 0, -1, 0), -1);
         due("reach, BAD what", x.reach(0, 0, 0, 2), -1);
         due("reach, BAD what", x.reach(0, 0, 0, -1), -1);
+        EveningFirst z = told("hours 8;one forth;deed 0 0 0 0;deed 1 0 0 1 0;deed 2 0 0 2 1;deed 3 0 0 3 2;"
+                + "deed 4 0 0 4 3;deed 5 0 0 5 4;deed 6 0 0 0 5;deed 6 0 0 1 5;");
+        for (int d = 0; d < 8; d++) {
+            z.mark(d, 1);
+        }
+        due("reach(0, 0, 7, 0), by all eight", z.reach(0, 0, 7, 0), 8);
+        due("reach(0, 0, 7, 1), by all eight", z.reach(0, 0, 7, 1), 255);
         EveningFirst y = told("one forth;deed 0 0 0 1;deed 1 0 0 0;deed 2 0 0 0;");
         due("reach(0, 0, 3, 1), of several the least", y.reach(0, 0, 3, 1), 2);
     }
@@ -751,6 +818,8 @@ public final class PromisesTest {
         // seed 1: 1103527590, its bits 16 to 30 are 16838, modulo 3 is 2: it wants what is not there
         due("walk(1, 1)", x.walk(1, 1), 0);
         due("walk(1, 60)", x.walk(1, 60), 7);
+        // seed 0: 12345, its bits 16 to 30 are 0
+        due("walk(0, 1)", x.walk(0, 1), 1);
         // then 2524885223 (5758: 1), 662824084 (10113: 0)
         due("walk(1, 2)", x.walk(1, 2), 0);
         due("walk(1, 3)", x.walk(1, 3), 1);
@@ -837,6 +906,7 @@ public final class PromisesTest {
             x.lay(1, 1, 255);
             due("read of 255 as of " + lane, x.read(1, lane, 0, 1), -20);
             promise = 33;
+            x.lay(1, 0, 1);
             x.sheet(1, lane, 2);
             due("a new row is of 0", x.read(1, lane, 0, 1), 1);
             due("a new row is of 0", x.deed(0, 5), 0);
