@@ -9,7 +9,7 @@ public final class AnyNumbersTest {
     private static final int[] MANY = {Integer.MIN_VALUE, Integer.MIN_VALUE + 1, -65536, -256, -11, -2, -1, 0, 1, 2, 3, 4, 6, 7, 8, 10,
         11, 13, 14, 17, 20, 21, 39, 40, 41, 63, 64, 127, 128, 255, 256, 65536, Integer.MAX_VALUE - 1, Integer.MAX_VALUE};
     private static final int[] SOME = {Integer.MIN_VALUE, -1, 0, 1, 3, 5, 8, 20, 40, 63, Integer.MAX_VALUE};
-    private static final int CALLS_OF_ONE = 250;
+    private static final int CALLS_OF_ONE = 200;
 
     private static int asked = 0;
     private static int wrong = 0;

@@ -21,16 +21,16 @@ public final class BoundsOfSeenTest {
         return new EveningFirst();
     }
 
-    /** Each of four is given thing 0 in HOUR 1. Forth he has it in 2, back in 0, other (0 2 3 1) in no HOUR. */
+    /** Each of four is given a THING of his own in HOUR 1. Forth he has it in 2, back in 0, other (0 2 3 1) in no HOUR. */
     private static EveningFirst four() {
-        return Checks.told(Checks.times(4, ONE) + "deed 1 0 0 0;deed 1 0 1 0;deed 1 0 2 0;deed 1 0 3 0;");
+        return Checks.told(Checks.times(4, ONE) + "deed 1 0 0 2;deed 1 0 1 3;deed 1 0 2 4;deed 1 0 3 5;");
     }
 
     private static EveningFirst eightSeen() {
         EveningFirst x = four();
         for (int p = 0; p < 4; p++) {
-            x.see(p, 0, 2, false);
-            x.see(p, 0, 0, false);
+            x.see(p, p + 2, 2, false);
+            x.see(p, p + 2, 0, false);
         }
         return x;
     }
@@ -56,7 +56,7 @@ public final class BoundsOfSeenTest {
         }
         Checks.due("see, the 9th", x.see(0, 0, 0, true), -3);
         Checks.due("count(2)", x.count(2), 8);
-        Checks.refused("see, the 9th", BoundsOfSeenTest::eightSeen, y -> y.see(0, 0, 2, true), -3);
+        Checks.refused("see, the 9th", BoundsOfSeenTest::eightSeen, y -> y.see(0, 2, 2, true), -3);
         Checks.says("the first that fits");
         Checks.refused("see, the 9th, p", BoundsOfSeenTest::eightSeen, y -> y.see(4, 0, 0, true), -1);
         Checks.refused("see, the 9th, t", BoundsOfSeenTest::eightSeen, y -> y.see(0, 6, 0, true), -1);
@@ -126,8 +126,8 @@ public final class BoundsOfSeenTest {
         for (int p = 0; p < 4; p++) {
             for (int w = 0; w < 3; w++) {
                 EveningFirst y = four();
-                y.see(p, 0, 2, w == 0);
-                y.see(p, 0, 0, w == 1);
+                y.see(p, p + 2, 2, w == 0);
+                y.see(p, p + 2, 0, w == 1);
                 Checks.due("ways(0), " + p + " goes by " + w, y.ways(0), 27);
                 Checks.due("ways(1), " + p + " goes by " + w, y.ways(1), w * unit[p]);
                 for (int q = 0; q < 4; q++) {
@@ -144,9 +144,9 @@ public final class BoundsOfSeenTest {
     private static void waysNone() {
         Checks.says("WAYS of all that FIT: NONE (1): there is none.");
         EveningFirst x = four();
-        x.see(3, 0, 2, true);
+        x.see(3, 5, 2, true);
         Checks.due("ways(1), one is seen", x.ways(1), 0);
-        x.see(3, 0, 2, false);
+        x.see(3, 5, 2, false);
         Checks.due("ways(0), none", x.ways(0), 0);
         Checks.due("ways(1), none", x.ways(1), -4);
         for (int p = 0; p < 4; p++) {
@@ -325,5 +325,15 @@ public final class BoundsOfSeenTest {
         Checks.due("one(3, 1)", y.one(3, 1), 63);
         Checks.due("count(2), nothing SEEN", y.count(2), 0);
         Checks.due("ways(0)", y.ways(0), 81);
+        EveningFirst z = eightSeen();
+        z.keep(1);
+        z.forget(0);
+        for (int i = 0; i < 8; i++) {
+            z.see(0, 0, 3, false);
+        }
+        Checks.due("ways(0), of other eight SEEN", z.ways(0), 81);
+        z.back(1);
+        Checks.due("ways(0), of the eight SEEN again", z.ways(0), 1);
+        Checks.due("ways(1), of the eight SEEN again", z.ways(1), 80);
     }
 }

@@ -352,7 +352,8 @@ public final class BoundsOfTextTest {
         // what may follow: a line's NAME, a NUMBER, a W, a ;
         String[] follow = {"L", "N", ";", "W", "N;", "N;", "N", "N", "N", "N", "N;", "N;", "N", ";", "N", ";", "N", "N", ";"};
         String[][] tokens = {{"N", "2"}, {";", ";"}, {"W", "forth"}, {"W", "back"}, {"W", "other"}, {"L", "hours"}, {"L", "one"},
-            {"L", "deed"}, {"L", "must"}, {"L", "never"}, {"L", "odds"}, {"", "x"}, {"", "hour"}, {"", "hourss"}, {"", "fort"},
+            {"L", "deed"}, {"L", "must"}, {"L", "never"}, {"L", "odds"}, {"", "x"}, {"", "xours"}, {"", "xne"}, {"", "xeed"}, {"", "xust"}, {"", "xever"}, {"", "xdds"},
+            {"", "xorth"}, {"", "xack"}, {"", "xther"}, {"", "hour"}, {"", "hourss"}, {"", "fort"},
             {"", "forthx"}, {"", "o"}, {"", "z"}};
         for (int i = 0; i < lines.length; i++) {
             for (String[] token : tokens) {
@@ -529,6 +530,16 @@ public final class BoundsOfTextTest {
         Checks.due("back(1)", x.back(1), -2);
         Checks.due("count(5): SHEETS stay", x.count(5), 6);
         Checks.due("torn() stays", x.torn(), 2);
+        EveningFirst z = Checks.told("one back 1;one other 2;one back 3;one other 4;" + Checks.times(4, DEED)
+                + "must 1;never 3;odds 1 3;odds 3 0;");
+        Checks.feed(z, Checks.times(4, ONE) + Checks.times(4, DEED));
+        z.text();
+        for (int i = 0; i < 4; i++) {
+            Checks.due("one(" + i + ", 0) behind another text", z.one(i, 0), 0);
+            Checks.due("one(" + i + ", 1) behind another text", z.one(i, 1), 0);
+            Checks.due("deed(" + i + ", 5) behind another text", z.deed(i, 5), 0);
+            Checks.due("deed(" + i + ", 6) behind another text", z.deed(i, 6), 10);
+        }
         EveningFirst y = Checks.rich();
         y.end(0);
         y.text();
@@ -549,5 +560,17 @@ public final class BoundsOfTextTest {
         Checks.faulty(Checks::rich, "one back;must 0;odds 0 2;", 6, 25);
         Checks.faulty(Checks::rich, "one back;deed 4 0 0 0;", 6, 22);
         Checks.faulty(() -> Checks.told("hours 2;one other 3;"), ONE + Checks.times(8, DEED) + "deed", 5, 114);
+        EveningFirst x = new EveningFirst();
+        Checks.feed(x, "hours 2;one back 3;must 0;odds 0 2;deed 0 0 0 5 1;x");
+        x.text();
+        Checks.feed(x, ONE + DEED);
+        Checks.due("text() behind one with a FAULT", x.text(), 2);
+        Checks.due("rule(0): the FAULTY one told nothing", x.rule(0), 4);
+        Checks.due("one(0, 0): the FAULTY one told nothing", x.one(0, 0), 0);
+        Checks.due("one(0, 1): the FAULTY one told nothing", x.one(0, 1), 0);
+        int[] deed = {0, 0, 0, 0, 0, 0, 10};
+        for (int what = 0; what < 7; what++) {
+            Checks.due("deed(0, " + what + "): the FAULTY one told nothing", x.deed(0, what), deed[what]);
+        }
     }
 }
