@@ -44,9 +44,10 @@ public final class EveningFirst {
 
     public EveningFirst() {
         now = new Family();
-        trial = new Family();
         bonds = new Bonds();
         reader = new Reader();
+        // no text is half told between two calls, so that "what if" may use the same rows
+        trial = reader.told;
         images = new Family[IMAGES];
         kept = new boolean[IMAGES];
         for (int k = 0; k < IMAGES; k++) {
@@ -82,10 +83,10 @@ public final class EveningFirst {
     }
 
     public int text() {
-        int answer = reader.tell(trial);
+        int answer = reader.tell();
         reader.length = 0;
         if (reader.fault == 0) {
-            now.become(trial);
+            now.become(reader.told);
             for (int k = 0; k < IMAGES; k++) {
                 kept[k] = false;
             }
@@ -956,7 +957,7 @@ public final class EveningFirst {
         int length;
         int fault;
         private int place;
-        private Family told;
+        final Family told = new Family();
         private boolean hoursTold;
         private int marksTold;
         private int oddsTold;
@@ -966,9 +967,8 @@ public final class EveningFirst {
         private int past;
         private int number;
 
-        /** Tells the tape into a family: how many lines, or -10 less the place of the fault. */
-        int tell(Family into) {
-            told = into;
+        /** How many lines, or -10 less the place of the fault. */
+        int tell() {
             told.empty();
             hoursTold = false;
             marksTold = 0;

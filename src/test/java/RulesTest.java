@@ -22,6 +22,18 @@ public final class RulesTest {
         "int walk(int,int)", "int keep(int)", "int back(int)", "int sheet(int,int,int)", "int lay(int,int,int)",
         "int read(int,int,int,int)", "int torn()", "int count(int)",
     };
+    /** Ahead of which calls the document's interface says what. */
+    private static final String[][] SECTIONS = {
+        {"the text", "feed", "end", "text", "fault", "rule", "one", "deed"},
+        {"what is changed", "go", "birth", "does", "shift", "mark", "odd"},
+        {"a day", "has", "hangs", "lacks"},
+        {"all days", "days", "greatest", "made", "stop"},
+        {"plans", "reach", "better", "common"},
+        {"odds", "odds", "luck"},
+        {"seen", "see", "forget", "ways"},
+        {"by a seed", "walk"},
+        {"images, sheets", "keep", "back", "sheet", "lay", "read", "torn", "count"},
+    };
     private static final String[] FORBIDDEN = {
         "throw", "throws", "try", "catch", "finally", "synchronized", "assert", "import", "package", "volatile", "native",
         "transient", "protected", "Object", "Random", "System.in", "System.out", "Thread", "hashCode", "toString",
@@ -38,7 +50,9 @@ public final class RulesTest {
 
     public static void main(String[] args) throws Exception {
         TreeSet<String> names = face();
-        String code = bare(Files.readString(Path.of("src/main/java/EveningFirst.java")));
+        String source = Files.readString(Path.of("src/main/java/EveningFirst.java"));
+        String code = bare(source);
+        sections(source);
         words(code);
         methods(code);
         classes(EveningFirst.class, names);
@@ -78,6 +92,19 @@ public final class RulesTest {
         }
         rule(constants.equals(new TreeSet<>(List.of("BAD -1", "STATE -2", "FULL -3", "NONE -4"))), "constants " + constants);
         return names;
+    }
+
+    private static void sections(String source) {
+        Matcher m = Pattern.compile("(?m)^    // ---- (.*)$|^    public (?:int|long) ([a-z]+)\\(").matcher(source);
+        StringBuilder got = new StringBuilder();
+        while (m.find()) {
+            got.append(m.group(1) != null ? "; " + m.group(1) + ":" : " " + m.group(2));
+        }
+        StringBuilder want = new StringBuilder();
+        for (String[] section : SECTIONS) {
+            want.append("; ").append(String.join(" ", section).replaceFirst(section[0], section[0] + ":"));
+        }
+        rule(got.toString().startsWith(want.toString()), "the calls by the document's order: " + got);
     }
 
     private static void classes(Class<?> c, TreeSet<String> names) {
